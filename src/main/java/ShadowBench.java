@@ -233,11 +233,10 @@ public final class ShadowBench {
         if (asked == null) {
             return NO_SUCH;
         }
-        Board board = asked.board;
         if (asked.sumOfWay(Board.ALONG_ROWS) != asked.sumOfWay(Board.ALONG_COLUMNS)) {
             return 0;
         }
-        for (int k = 1; k <= board.wide; k++) {
+        for (int k = 1; k <= asked.board.wide; k++) {
             if (asked.greatestColumns(k) > asked.roomInRows(k)) {
                 return k;
             }
@@ -301,7 +300,13 @@ public final class ShadowBench {
         if (board.firstUnlikeWay(from, to, ROWS_AND_COLUMNS) >= 0) {
             return NONE;
         }
-        return from == to ? 0 : fewestSwitches(board, from, to);
+        if (from == to) {
+            return 0;
+        }
+        if (meetings == null) {
+            meetings = new Meetings();
+        }
+        return meetings.fewestSwitches(board, from, to);
     }
 
     // Promise 21
@@ -576,45 +581,6 @@ public final class ShadowBench {
         return first;
     }
 
-    private int fewestSwitches(Board board, long from, long to) {
-        if (meetings == null) {
-            meetings = new Meetings();
-        }
-        meetings.forget();
-        meetings.meet(from);
-        int steps = 0;
-        int ringEnd = 1;
-        for (int at = 0; at < Meetings.MOST && at < meetings.size(); at++) {
-            if (at == ringEnd) {
-                steps++;
-                ringEnd = meetings.size();
-            }
-            int met = meetNeighbours(board, meetings.metAt(at), to);
-            if (met != 0) {
-                return met < 0 ? SPENT : steps + 1;
-            }
-        }
-        // Switches lead to every picture with these shadows, so no search comes here.
-        return SPENT;
-    }
-
-    /** Meets what lies behind a picture's switches: 1 if the sought one is met, SPENT, or 0. */
-    private int meetNeighbours(Board board, long picture, long sought) {
-        for (int four = 0; four < board.fours; four++) {
-            long behind = board.behindFour(four, picture);
-            if (behind != picture && !meetings.knows(behind)) {
-                if (meetings.size() >= Meetings.MOST) {
-                    return SPENT;
-                }
-                meetings.meet(behind);
-                if (behind == sought) {
-                    return 1;
-                }
-            }
-        }
-        return 0;
-    }
-
     private boolean isOtherThanListed(int wide, int high) {
         return listBoard != null && (listBoard.wide != wide || listBoard.high != high);
     }
@@ -740,12 +706,14 @@ public final class ShadowBench {
         static final int[] STEP_Y = {0, 1, 1, -1};
         static final int QUARTER = 0;
         static final int UPSIDE_DOWN = 1;
-        static final int EXCHANGED = 2;
         static final int ONES_AND_NOUGHTS = 3;
 
         final int wide;
         final int high;
         final int squares;
+        /** How many pictures one row can have. */
+        final int rowNumbers;
+        /** How many pairs of rows there are with each pair of columns. */
         final int fours;
         private final long[] lines = new long[WAYS * MOST_LINES];
         private final long[] falling;
@@ -755,6 +723,7 @@ public final class ShadowBench {
             this.wide = wide;
             this.high = high;
             squares = wide * high;
+            rowNumbers = 1 << wide;
             fours = pairsOf(wide) * pairsOf(high);
             falling = new long[fours];
             rising = new long[fours];
@@ -837,22 +806,14 @@ public final class ShadowBench {
             return way >= 0 && way < WAYS && line >= 0 && line < lineCount(way);
         }
 
-        long lineMask(int way, int line) {
-            return isLine(way, line) ? lines[way * MOST_LINES + line] : 0L;
-        }
-
         int onesOfLine(int way, int line, long picture) {
-            return Long.bitCount(picture & lineMask(way, line));
-        }
-
-        /** How many pictures one row can have. */
-        int rowNumbers() {
-            return 1 << wide;
+            int place = way * MOST_LINES + line;
+            return place >= 0 && place < lines.length ? Long.bitCount(picture & lines[place]) : 0;
         }
 
         /** Row y of a mask of the whole board: bit x is column x. */
         int rowOf(long mask, int y) {
-            return (int) (mask >>> y * wide) & (rowNumbers() - 1);
+            return (int) (mask >>> (y * wide)) & (rowNumbers - 1);
         }
 
         /** The least way of a set along which two pictures' shadows are unlike, or -1. */
@@ -886,24 +847,22 @@ public final class ShadowBench {
         }
 
         boolean hangsTogether(long picture) {
-            long reached = Long.lowestOneBit(picture);
+            long left = lines[ALONG_COLUMNS * MOST_LINES];
+            long right = left << (wide - 1);
+            long reached = picture & -picture;
             for (int step = 1; step < squares && reached != picture; step++) {
-                reached |= besides(reached) & picture;
+                long beside = (reached & ~right) << 1 | (reached & ~left) >>> 1;
+                long aboveAndBelow = reached << wide | reached >>> wide;
+                reached |= (beside | aboveAndBelow) & picture;
             }
             return reached == picture;
-        }
-
-        private long besides(long ones) {
-            long rightward = (ones & ~lineMask(ALONG_COLUMNS, wide - 1)) << 1;
-            long leftward = (ones & ~lineMask(ALONG_COLUMNS, 0)) >>> 1;
-            return rightward | leftward | ones << wide | ones >>> wide;
         }
 
         boolean rowsAreWhole(long picture) {
             for (int y = 0; y < high; y++) {
                 int row = rowOf(picture, y);
                 // Adding its lowest one carries through a row without gaps and leaves none of it.
-                if ((row & (row + Integer.lowestOneBit(row))) != 0) {
+                if ((row & (row + (row & -row))) != 0) {
                     return false;
                 }
             }
@@ -919,7 +878,7 @@ public final class ShadowBench {
                     return false;
                 }
                 begun |= row;
-                ended |= begun & ~row;
+                ended = begun & ~row;
             }
             return true;
         }
@@ -955,7 +914,7 @@ public final class ShadowBench {
     private abstract static class Held {
     }
 
-    /** A plain job; the other kinds stand under it. */
+    /** A plain job. The kinds under it have their own asking, heft, failure and copy. */
     private static class Job extends Held {
         static final int FREE = 2;
         static final int LEAST_HEFT = 10;
@@ -975,7 +934,8 @@ public final class ShadowBench {
         }
 
         int sumOf(int way, int line) {
-            return board.isLine(way, line) ? sums[way * Board.MOST_LINES + line] : 0;
+            int place = way * Board.MOST_LINES + line;
+            return place >= 0 && place < sums.length ? sums[place] : 0;
         }
 
         void tellLine(int way, int line, int v) {
@@ -1114,22 +1074,18 @@ public final class ShadowBench {
             super(board);
         }
 
-        @Override
         boolean isAsKindAsks(long picture) {
             return board.hangsTogether(picture);
         }
 
-        @Override
         int heft() {
             return super.heft() + MORE_HEFT;
         }
 
-        @Override
         void fail() {
             throw new IllegalStateException("joined");
         }
 
-        @Override
         Job asItIs() {
             return alike(new JoinedJob(board));
         }
@@ -1140,23 +1096,19 @@ public final class ShadowBench {
             super(board);
         }
 
-        @Override
         boolean isAsKindAsks(long picture) {
             return super.isAsKindAsks(picture)
                     && board.rowsAreWhole(picture) && board.columnsAreWhole(picture);
         }
 
-        @Override
         int heft() {
             return 2 * super.heft();
         }
 
-        @Override
         void fail() {
             throw new IllegalArgumentException("even");
         }
 
-        @Override
         Job asItIs() {
             return alike(new EvenJob(board));
         }
@@ -1189,17 +1141,14 @@ public final class ShadowBench {
             return worth;
         }
 
-        @Override
         int heft() {
             return super.heft() + worthOf(-1L);
         }
 
-        @Override
         void fail() {
             throw new UnsupportedOperationException("marked");
         }
 
-        @Override
         Job asItIs() {
             MarkedJob other = new MarkedJob(board);
             System.arraycopy(marks, 0, other.marks, 0, marks.length);
@@ -1246,7 +1195,7 @@ public final class ShadowBench {
     /** Goes through the pictures that fit a job, row by row, and counts the rows that it tries. */
     private static final class Walk {
         private static final int MOST_TRIES = 200000;
-        /** A turn tries a row or steps back from one that went on, so this is never reached. */
+        /** A turn goes on with a row or steps back from one, so this is never reached. */
         private static final int MOST_TURNS = 1000000;
 
         private Job job = null;
@@ -1279,11 +1228,10 @@ public final class ShadowBench {
         /** Goes on to the next picture that fits; false if there is none, or the walk is spent. */
         boolean advance() {
             for (int turn = 0; turn < MOST_TURNS && hasRow() && !spent; turn++) {
-                if (nextRow[y] >= job.board.rowNumbers()) {
+                int row = nextGoingOn();
+                if (row < 0) {
                     y--;
-                } else if (tried >= MOST_TRIES) {
-                    spent = true;
-                } else if (completes(takeRow())) {
+                } else if (completes(row)) {
                     return true;
                 }
             }
@@ -1305,24 +1253,26 @@ public final class ShadowBench {
             }
         }
 
-        private int takeRow() {
+        /** Tries rows at y till one may go on; -1 if none may, or the walk is spent. */
+        private int nextGoingOn() {
+            int end = job.board.rowNumbers;
             int row = nextRow[y];
-            nextRow[y]++;
-            tried++;
-            return row;
-        }
-
-        private boolean goesOn(int row) {
-            return (row & barred[y]) == 0 && (row & needed[y]) == needed[y]
-                    && Integer.bitCount(row) == rowSum[y];
-        }
-
-        /** Goes on with a row if it may; true if it is the last one of a picture that fits. */
-        private boolean completes(int row) {
-            if (!goesOn(row)) {
-                return false;
+            while (row < end && tried < MOST_TRIES) {
+                tried++;
+                if ((row & barred[y]) == 0 && (row & needed[y]) == needed[y]
+                        && Integer.bitCount(row) == rowSum[y]) {
+                    nextRow[y] = row + 1;
+                    return row;
+                }
+                row++;
             }
-            long picture = drawn[y] | (long) row << y * job.board.wide;
+            spent = row < end;
+            return -1;
+        }
+
+        /** Goes on with a row; true if it is the last one of a picture that fits. */
+        private boolean completes(int row) {
+            long picture = drawn[y] | (long) row << (y * job.board.wide);
             if (y + 1 < job.board.high) {
                 enterRow(y + 1, picture);
                 return false;
@@ -1332,54 +1282,84 @@ public final class ShadowBench {
         }
     }
 
-    /** The pictures that a search has met, in their order. */
+    /** Meets pictures from switch to switch, and remembers them in their order. */
     private static final class Meetings {
-        static final int MOST = 20000;
+        private static final int MOST = 20000;
         private static final int SLOT_BITS = 15;
         private static final int SLOTS = 1 << SLOT_BITS;
         private static final long SCATTER = 0x9E3779B97F4A7C15L;
 
         private final long[] met = new long[MOST];
-        /** A picture's place in met and 1; 0 is an empty slot. */
-        private final int[] slots = new int[SLOTS];
         private int size = 0;
+        /** Where a picture stands in met, from 1 on; 0 is an empty slot. */
+        private final int[] slots = new int[SLOTS];
 
-        void forget() {
+        /** The steps between two unlike pictures with the same rows and columns, or SPENT. */
+        int fewestSwitches(Board board, long from, long to) {
             Arrays.fill(slots, 0);
             size = 0;
+            meet(from);
+            int steps = 0;
+            int ringEnd = 1;
+            for (int at = 0; at < MOST && at < size; at++) {
+                if (at == ringEnd) {
+                    steps++;
+                    ringEnd = size;
+                }
+                boolean hadRoom = meetNeighbours(board, met[at]);
+                if (knows(to)) {
+                    return steps + 1;
+                }
+                if (!hadRoom) {
+                    return SPENT;
+                }
+            }
+            // Switches lead to every picture with these rows and columns, so no search ends here.
+            return SPENT;
         }
 
-        int size() {
-            return size;
+        /** False where one more would be met than may be. */
+        private boolean meetNeighbours(Board board, long picture) {
+            for (int four = 0; four < board.fours; four++) {
+                long behind = board.behindFour(four, picture);
+                if (behind != picture && !meet(behind)) {
+                    return false;
+                }
+            }
+            return true;
         }
 
-        long metAt(int i) {
-            return i >= 0 && i < size && i < MOST ? met[i] : 0L;
-        }
-
-        boolean knows(long picture) {
+        private boolean knows(long picture) {
             return slots[slotFor(picture)] != 0;
         }
 
-        void meet(long picture) {
+        /** False if it was not met yet and there is no room for it. */
+        private boolean meet(long picture) {
             int slot = slotFor(picture);
-            if (size < MOST && slots[slot] == 0) {
-                met[size] = picture;
-                size++;
-                slots[slot] = size;
+            if (slots[slot] != 0) {
+                return true;
             }
+            if (size >= MOST) {
+                return false;
+            }
+            met[size] = picture;
+            size++;
+            slots[slot] = size;
+            return true;
         }
 
         /** The slot where a picture is, or else the empty one where it would be. */
         private int slotFor(long picture) {
             int slot = (int) (picture * SCATTER >>> (64 - SLOT_BITS)) & (SLOTS - 1);
-            for (int step = 0; step < SLOTS; step++) {
-                if (slots[slot] == 0 || metAt(slots[slot] - 1) == picture) {
-                    return slot;
-                }
+            for (int step = 0; step < SLOTS && isTakenByOther(slot, picture); step++) {
                 slot = (slot + 1) & (SLOTS - 1);
             }
             return slot;
+        }
+
+        private boolean isTakenByOther(int slot, long picture) {
+            int place = slots[slot] - 1;
+            return place >= 0 && place < MOST && met[place] != picture;
         }
     }
 }

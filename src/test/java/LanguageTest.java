@@ -6,7 +6,7 @@ import java.util.Set;
 import java.util.regex.Matcher;
 import java.util.regex.Pattern;
 
-/** What of LANGUAGE.md's rules can be seen in the words of the source. It is run at the project's root. */
+/** The rules of LANGUAGE.md that the source's own words show; run at the project's root. */
 public final class LanguageTest {
     private static final Set<String> MAY_BE_CAUGHT = Set.of("IllegalStateException",
             "IllegalArgumentException", "UnsupportedOperationException", "NoSuchElementException");
@@ -24,7 +24,8 @@ public final class LanguageTest {
         Check.isTrue("signs 1 to 127 alone", source.chars().allMatch(c -> c > 0 && c < 128));
         String code = withoutCommentsAndTexts(source);
         for (String word : NOT_TO_BE_USED) {
-            Check.isTrue("it has the word " + word, !found(code, "\\b" + Pattern.quote(word) + "\\b"));
+            Check.isTrue("it has the word " + word,
+                    !found(code, "\\b" + Pattern.quote(word) + "\\b"));
         }
         Check.isTrue("it has a lambda or a method reference", !found(code, "->|::"));
         Check.isTrue("it has a static block", !found(code, "static\\s*\\{"));
@@ -36,7 +37,8 @@ public final class LanguageTest {
         for (String name : all(code, "import ([\\w.*]+);")) {
             Check.isTrue("it imports " + name, MAY_BE_IMPORTED.contains(name));
         }
-        Check.isTrue("more than twelve classes", all(code, "\\b(class|enum|record|interface) \\w+").size() <= 12);
+        int classes = all(code, "\\b(class|enum|record|interface) \\w+").size();
+        Check.isTrue("more than twelve classes: " + classes, classes > 0 && classes <= 12);
         methodsAreShort(code);
         Check.end();
     }

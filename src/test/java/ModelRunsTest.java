@@ -11,8 +11,8 @@ public final class ModelRunsTest {
     private static final int ROUNDS = 60;
     /** What later calls on one object answer is free. */
     private static final int CALLS = 512;
-    private static final int[] WILD_INTS = {-1, -2, 0, 1, 2, 3, 4, 5, 6, 7, 8, 9, 11, 12, 15, 16, 36,
-        37, 60, 61, 99, 100, -99, -100, 200000, Integer.MAX_VALUE, Integer.MIN_VALUE,
+    private static final int[] WILD_INTS = {-1, -2, 0, 1, 2, 3, 4, 5, 6, 7, 8, 9, 11, 12, 15, 16,
+        36, 37, 60, 61, 99, 100, -99, -100, 200000, Integer.MAX_VALUE, Integer.MIN_VALUE,
         Integer.MAX_VALUE - 1, 1 << 30};
     private static final long[] WILD_LONGS = {-1L, 0L, 1L, (1L << 36) - 1L, 1L << 36, 1L << 63,
         Long.MAX_VALUE, 1L << 32, -5L, 1L << 62};
@@ -367,7 +367,8 @@ public final class ModelRunsTest {
     private Object[] valuesWithoutJob(String name) {
         switch (name) {
             case "shadow":
-                return new Object[] {edge(wide), edge(high), pictureOr(2), some(4), some(wide + high)};
+                return new Object[] {edge(wide), edge(high), pictureOr(2), some(4),
+                    some(wide + high)};
             case "switches":
             case "joined":
                 return new Object[] {edge(wide), edge(high), pictureOr(2)};

@@ -199,6 +199,13 @@ public final class PromisesTest {
         Check.due(b.told(0, 2, 0), 1);
         Check.due(b.told(0, 2, 2), 0);
         Check.due(b.untell(0, 3), 1);
+        b.cast(0, 3, 511);
+        b.untell(0, 3);
+        b.sum(0, 3, 2, 4);
+        int[] anew = {0, 0, 4, 0, 0};
+        for (int line = 0; line < 5; line++) {
+            Check.due(b.told(0, 3, line), anew[line]);
+        }
         Check.due(b.untell(0, 0), -1);
         Check.due(b.untell(0, 1), -1);
         Check.due(b.untell(0, 4), -1);
@@ -646,10 +653,8 @@ public final class PromisesTest {
         Check.due(b.even(3, 3, 273, false), 1);
         Check.due(b.even(3, 3, 273, true), 1);
         Check.due(b.even(6, 6, (1L << 36) - 1, true), 1);
-        Check.due(b.even(6, 6, pic("......", "......", "......", "......", "......", "#....#"), false),
-                0);
-        Check.due(b.even(6, 6, pic(".....#", "......", "......", "......", "......", ".....#"), true),
-                0);
+        Check.due(b.even(6, 6, 1L << 30 | 1L << 35, false), 0);
+        Check.due(b.even(6, 6, 1L << 5 | 1L << 35, true), 0);
         Check.due(b.even(6, 1, pic(".####."), false), 1);
         Check.due(b.even(6, 1, pic("#.####"), false), 0);
         Check.due(b.even(3, 3, 512, false), -1);
