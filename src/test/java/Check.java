@@ -1,5 +1,8 @@
+import java.util.Set;
+
 /** Compares answers with those that are due, and says where one is not. */
 final class Check {
+    private static final Set<String> HELPERS = Set.of("Check", "Refused", "Look");
     private static int wrong = 0;
     private static int looked = 0;
 
@@ -63,14 +66,16 @@ final class Check {
         }
     }
 
+    /** The nearest caller that is no helper. */
     private static String place() {
         StackTraceElement place = null;
         for (StackTraceElement e : new Throwable().getStackTrace()) {
             place = e;
-            if (!e.getClassName().equals("Check")) {
+            if (!HELPERS.contains(e.getClassName())) {
                 break;
             }
         }
-        return place.getMethodName() + ", line " + place.getLineNumber();
+        return place.getFileName() + ", " + place.getMethodName() + ", line "
+                + place.getLineNumber();
     }
 }
