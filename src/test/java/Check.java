@@ -3,8 +3,16 @@ import java.util.Set;
 /** Compares answers with those that are due, and says where one is not. */
 final class Check {
     private static final Set<String> HELPERS = Set.of("Check", "Refused", "Look");
+    /** Far above what any test needs, so that a call that doesn't end is a failure too. */
+    private static final long MOST_MILLISECONDS = 900_000L;
     private static int wrong = 0;
     private static int looked = 0;
+
+    static {
+        Thread watch = new Thread(Check::failWhenLate);
+        watch.setDaemon(true);
+        watch.start();
+    }
 
     private Check() {
     }
@@ -57,6 +65,16 @@ final class Check {
     static void end() {
         System.out.println(looked + " looked at, " + wrong + " wrong");
         System.exit(wrong == 0 ? 0 : 1);
+    }
+
+    private static void failWhenLate() {
+        try {
+            Thread.sleep(MOST_MILLISECONDS);
+        } catch (InterruptedException e) {
+            return;
+        }
+        System.out.println("a call doesn't end");
+        Runtime.getRuntime().halt(1);
     }
 
     private static void tell(String text) {
